@@ -131,7 +131,9 @@ public final class ModelTest {
     }
 
     private static void both(String what, Answer grid, Answer model) {
-        CHECKS.same(what, told(grid), told(model));
+        String got = told(grid);
+        CHECKS.same(what, got, told(model));
+        CHECKS.holds(what + ": a number", !got.equals("NaN") && !got.endsWith("Infinity"));
     }
 
     private static String told(Answer answer) {

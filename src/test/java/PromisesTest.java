@@ -203,6 +203,10 @@ public final class PromisesTest {
             double h = 4.0 - half;
             CHECKS.same(name + ", depths", grid(2, limiter, 1, 1, 2.0, -32.0, 2.0, -32.0, 4.0, -32.0,
                     10.0, -32.0, 10.0, -32.0).flux(2, true), -32.0 * (-32.0 / h) + 0.5 * h * h);
+            // And rightward, the left state is 4 and half of it more.
+            double k = 4.0 + half;
+            CHECKS.same(name + ", depths, rightward", grid(2, limiter, 1, 1, 2.0, 32.0, 2.0, 32.0, 4.0, 32.0,
+                    10.0, 32.0, 10.0, 32.0).flux(3, true), 32.0 * (32.0 / k) + 0.5 * k * k);
         }
     }
 
@@ -216,6 +220,14 @@ public final class PromisesTest {
         // x is -1, y is 3.
         CHECKS.same("NARROW: flux(2, false)", narrow.flux(2, false), (4.0 - 9.0) / 4.0);
         CHECKS.same("NARROW: flux(2, true)", narrow.flux(2, true), (1.5 + 12.0 - 12.0) / 4.0);
+        FlowGrid falling = grid(2, 0, 1, 1, 4.0, 4.0, 4.0, 4.0, 1.0, 0.0, 1.0, 0.0);
+        // x is -1 of the right state, y is 3 of the left one.
+        CHECKS.same("NARROW, falling: flux(2, false)", falling.flux(2, false), (12.0 + 9.0) / 4.0);
+        CHECKS.same("NARROW, falling: flux(2, true)", falling.flux(2, true), (36.0 + 0.5 + 12.0) / 4.0);
+        FlowGrid against = grid(2, 0, 1, 1, 4.0, -4.0, 4.0, -4.0, 1.0, 1.0, 1.0, 1.0);
+        // x is -3 of the left state, y is 2 of the right one.
+        CHECKS.same("NARROW, against: flux(2, false)", against.flux(2, false), (-8.0 + 3.0 + 18.0) / 5.0);
+        CHECKS.same("NARROW, against: flux(2, true)", against.flux(2, true), (24.0 + 4.5 - 30.0) / 5.0);
         // x is exactly 0.0: the left flux; y exactly 0.0: the right one.
         FlowGrid right = shallow(2, 0, 1, 1.0, 1.0, 2.0, 2.0);
         CHECKS.same("NARROW, x 0: flux(2, false)", right.flux(2, false), 1.0);
