@@ -31,51 +31,6 @@ public final class PromisesTest {
         CHECKS.end();
     }
 
-    private static FlowGrid grid(int ends, int limiter, int solver, int order, double... states) {
-        FlowGrid x = new FlowGrid();
-        x.cells(states.length / 2);
-        x.choose(ends, limiter, solver, order);
-        for (int k = 0; k < states.length / 2; k++) {
-            x.put(k, states[2 * k], states[2 * k + 1]);
-        }
-        return x;
-    }
-
-    // Cells of depth 1.0, so that their speed is their momentum.
-    private static FlowGrid shallow(int ends, int limiter, int solver, double... momenta) {
-        double[] states = new double[2 * momenta.length];
-        for (int k = 0; k < momenta.length; k++) {
-            states[2 * k] = 1.0;
-            states[2 * k + 1] = momenta[k];
-        }
-        return grid(ends, limiter, solver, 1, states);
-    }
-
-    // Refused at once: every try of its first step makes some cell fall dry.
-    private static FlowGrid refusing() {
-        return grid(0, 3, 1, 2, 16.0, 50.0, 4.0, 5.0, 16.0, -50.0, 0.25, 0.0);
-    }
-
-    // Its first step fails four times, its second one five times.
-    private static FlowGrid stubborn() {
-        return grid(0, 2, 1, 1, 0.125, 0.0, 16.0, 50.0, 4.0, 10.0, 4.0, -40.0);
-    }
-
-    private static String all(FlowGrid x) {
-        StringBuilder b = new StringBuilder();
-        for (int k = 0; k < x.count(0); k++) {
-            b.append(x.cell(k, 0)).append('/').append(x.cell(k, 1)).append(' ');
-        }
-        for (int face = 0; face <= x.count(0); face++) {
-            b.append(x.flux(face, false)).append('/').append(x.flux(face, true)).append(' ');
-        }
-        b.append(x.time());
-        for (int what = 1; what <= 3; what++) {
-            b.append(' ').append(x.count(what));
-        }
-        return b.toString();
-    }
-
     private static void level(String when, FlowGrid x, int n) {
         CHECKS.same(when + ": count(0)", x.count(0), n);
         for (int k = 0; k < n; k++) {
@@ -117,10 +72,10 @@ public final class PromisesTest {
         x.put(0, 4.0, 4.0);
         x.put(7, 16.0, -4.0);
         x.step(0.125);
-        String before = all(x);
+        String before = Grids.all(x);
         for (int n : new int[] {3, 25, 0, -1, -4, Integer.MIN_VALUE, Integer.MAX_VALUE}) {
             CHECKS.throwsIt("cells(" + n + ")", ARGUMENT, () -> x.cells(n));
-            CHECKS.same("all after cells(" + n + ")", all(x), before);
+            CHECKS.same("all after cells(" + n + ")", Grids.all(x), before);
         }
         for (int n : new int[] {4, 24, 8, 5}) {
             x.cells(n);
@@ -129,7 +84,7 @@ public final class PromisesTest {
             x.put(n - 1, 4.0, 1.0);
             CHECKS.same("cells(" + n + "): the ends stay a WALL", x.flux(n, false), 0.0);
         }
-        FlowGrid y = refusing();
+        FlowGrid y = Grids.refusing();
         CHECKS.throwsIt("step", STATE, () -> y.step(10.0));
         y.cells(4);
         CHECKS.same("cells: count(2) stays", y.count(2), 5);
@@ -137,15 +92,15 @@ public final class PromisesTest {
     }
 
     private static void promise3Wrong() {
-        FlowGrid x = grid(1, 2, 1, 2, 1.0, 3.0, 2.0, 5.0, 4.0, 1.0, 9.0, -2.0, 8.0, 4.0);
-        String before = all(x);
+        FlowGrid x = Grids.grid(1, 2, 1, 2, 1.0, 3.0, 2.0, 5.0, 4.0, 1.0, 9.0, -2.0, 8.0, 4.0);
+        String before = Grids.all(x);
         int[][] wrong = {{-1, 0, 0, 1}, {3, 0, 0, 1}, {0, -1, 0, 1}, {0, 4, 0, 1}, {0, 0, -1, 1},
             {0, 0, 2, 1}, {0, 0, 0, 0}, {0, 0, 0, 3}, {0, 0, 0, -1}, {Integer.MIN_VALUE, 0, 0, 1},
             {0, Integer.MAX_VALUE, 0, 1}, {0, 0, Integer.MIN_VALUE, 1}, {0, 0, 0, Integer.MAX_VALUE}};
         for (int[] w : wrong) {
             String call = "choose(" + w[0] + ", " + w[1] + ", " + w[2] + ", " + w[3] + ")";
             CHECKS.throwsIt(call, ARGUMENT, () -> x.choose(w[0], w[1], w[2], w[3]));
-            CHECKS.same("all after " + call, all(x), before);
+            CHECKS.same("all after " + call, Grids.all(x), before);
         }
         for (int k = 0; k < 48; k++) {
             x.choose(k % 3, k / 3 % 4, k / 12 % 2, 1 + k / 24);
@@ -155,23 +110,23 @@ public final class PromisesTest {
 
     private static void promise3Ends() {
         // All flows fast to the right, so NARROW takes the left state: m plus half its slope.
-        FlowGrid ring = shallow(0, 1, 1, 18.0, 5.0, 10.0, 12.0);
+        FlowGrid ring = Grids.shallow(0, 1, 1, 18.0, 5.0, 10.0, 12.0);
         CHECKS.same("RING: flux(0, false)", ring.flux(0, false), 13.0);
         CHECKS.same("RING: flux(4, false)", ring.flux(4, false), 13.0);
         // And fast to the left: m of the right state, less half its slope.
-        FlowGrid back = shallow(0, 1, 1, -12.0, -10.0, -5.0, -18.0);
+        FlowGrid back = Grids.shallow(0, 1, 1, -12.0, -10.0, -5.0, -18.0);
         CHECKS.same("RING, leftward: flux(4, false)", back.flux(4, false), -13.0);
         CHECKS.same("RING, leftward: flux(0, false)", back.flux(0, false), -13.0);
         // Beyond the WALL stand -1.5 and -1 (and -1 and -3): the slopes there are 0.5 and -2.
-        FlowGrid wall = shallow(1, 1, 0, 1.0, 1.5, 3.0, 1.0);
+        FlowGrid wall = Grids.shallow(1, 1, 0, 1.0, 1.5, 3.0, 1.0);
         CHECKS.same("WALL: flux(0, false)", wall.flux(0, false), 0.0);
         CHECKS.same("WALL: flux(0, true)", wall.flux(0, true), 1.0625 - 0.5 * 1.75 * 1.5);
         CHECKS.same("WALL: flux(4, false)", wall.flux(4, false), 0.0);
         CHECKS.same("WALL: flux(4, true)", wall.flux(4, true), 0.5);
-        FlowGrid bare = shallow(1, 0, 0, 1.0, 1.5, 3.0, 2.0);
+        FlowGrid bare = Grids.shallow(1, 0, 0, 1.0, 1.5, 3.0, 2.0);
         CHECKS.same("WALL, no slopes: flux(0, true)", bare.flux(0, true), 1.5 - 0.5 * 2.0 * 2.0);
         CHECKS.same("WALL, no slopes: flux(4, true)", bare.flux(4, true), 4.5 + 0.5 * 3.0 * 4.0);
-        FlowGrid open = shallow(2, 2, 1, 10.0, 12.0, 14.0, 16.0);
+        FlowGrid open = Grids.shallow(2, 2, 1, 10.0, 12.0, 14.0, 16.0);
         CHECKS.same("OPEN: flux(0, false)", open.flux(0, false), 10.0);
         CHECKS.same("OPEN: flux(0, true)", open.flux(0, true), 100.5);
         CHECKS.same("OPEN: flux(4, false)", open.flux(4, false), 16.0);
@@ -184,59 +139,59 @@ public final class PromisesTest {
             String name = "limiter " + limiter;
             double half = 0.5 * slopes[limiter];
             CHECKS.same(name + ", a 2, b 6",
-                    shallow(2, limiter, 1, 10.0, 10.0, 12.0, 18.0, 18.0).flux(3, false), 12.0 + half);
+                    Grids.shallow(2, limiter, 1, 10.0, 10.0, 12.0, 18.0, 18.0).flux(3, false), 12.0 + half);
             CHECKS.same(name + ", a 6, b 2",
-                    shallow(2, limiter, 1, 4.0, 4.0, 10.0, 12.0, 12.0).flux(3, false), 10.0 + half);
+                    Grids.shallow(2, limiter, 1, 4.0, 4.0, 10.0, 12.0, 12.0).flux(3, false), 10.0 + half);
             CHECKS.same(name + ", a -2, b -6",
-                    shallow(2, limiter, 1, 18.0, 18.0, 16.0, 10.0, 10.0).flux(3, false), 16.0 - half);
+                    Grids.shallow(2, limiter, 1, 18.0, 18.0, 16.0, 10.0, 10.0).flux(3, false), 16.0 - half);
             CHECKS.same(name + ", a -6, b -2",
-                    shallow(2, limiter, 1, 18.0, 18.0, 12.0, 10.0, 10.0).flux(3, false), 12.0 - half);
-            CHECKS.same(name + ", a 4, b 4", shallow(2, limiter, 1, 8.0, 8.0, 12.0, 16.0, 16.0)
+                    Grids.shallow(2, limiter, 1, 18.0, 18.0, 12.0, 10.0, 10.0).flux(3, false), 12.0 - half);
+            CHECKS.same(name + ", a 4, b 4", Grids.shallow(2, limiter, 1, 8.0, 8.0, 12.0, 16.0, 16.0)
                     .flux(3, false), limiter == 0 ? 12.0 : 14.0);
             CHECKS.same(name + ", a 4, b -4",
-                    shallow(2, limiter, 1, 8.0, 8.0, 12.0, 8.0, 8.0).flux(3, false), 12.0);
+                    Grids.shallow(2, limiter, 1, 8.0, 8.0, 12.0, 8.0, 8.0).flux(3, false), 12.0);
             CHECKS.same(name + ", a 0, b 4",
-                    shallow(2, limiter, 1, 8.0, 8.0, 8.0, 12.0, 12.0).flux(3, false), 8.0);
+                    Grids.shallow(2, limiter, 1, 8.0, 8.0, 8.0, 12.0, 12.0).flux(3, false), 8.0);
             CHECKS.same(name + ", a 4, b 0",
-                    shallow(2, limiter, 1, 8.0, 8.0, 12.0, 12.0, 12.0).flux(3, false), 12.0);
+                    Grids.shallow(2, limiter, 1, 8.0, 8.0, 12.0, 12.0, 12.0).flux(3, false), 12.0);
             // The depths' slopes: leftward, the right state is 4 less half of it, m is -32.
             double h = 4.0 - half;
-            CHECKS.same(name + ", depths", grid(2, limiter, 1, 1, 2.0, -32.0, 2.0, -32.0, 4.0, -32.0,
+            CHECKS.same(name + ", depths", Grids.grid(2, limiter, 1, 1, 2.0, -32.0, 2.0, -32.0, 4.0, -32.0,
                     10.0, -32.0, 10.0, -32.0).flux(2, true), -32.0 * (-32.0 / h) + 0.5 * h * h);
             // And rightward, the left state is 4 and half of it more.
             double k = 4.0 + half;
-            CHECKS.same(name + ", depths, rightward", grid(2, limiter, 1, 1, 2.0, 32.0, 2.0, 32.0, 4.0, 32.0,
+            CHECKS.same(name + ", depths, rightward", Grids.grid(2, limiter, 1, 1, 2.0, 32.0, 2.0, 32.0, 4.0, 32.0,
                     10.0, 32.0, 10.0, 32.0).flux(3, true), 32.0 * (32.0 / k) + 0.5 * k * k);
         }
     }
 
     private static void promise3Solvers() {
         double[] states = {1.0, 0.0, 1.0, 0.0, 4.0, 4.0, 4.0, 4.0};
-        FlowGrid broad = grid(2, 0, 0, 1, states);
+        FlowGrid broad = Grids.grid(2, 0, 0, 1, states);
         // s is 3; the fluxes of m are 0.5 and 4 + 8.
         CHECKS.same("BROAD: flux(2, false)", broad.flux(2, false), 2.0 - 1.5 * 3.0);
         CHECKS.same("BROAD: flux(2, true)", broad.flux(2, true), 6.25 - 1.5 * 4.0);
-        FlowGrid narrow = grid(2, 0, 1, 1, states);
+        FlowGrid narrow = Grids.grid(2, 0, 1, 1, states);
         // x is -1, y is 3.
         CHECKS.same("NARROW: flux(2, false)", narrow.flux(2, false), (4.0 - 9.0) / 4.0);
         CHECKS.same("NARROW: flux(2, true)", narrow.flux(2, true), (1.5 + 12.0 - 12.0) / 4.0);
-        FlowGrid falling = grid(2, 0, 1, 1, 4.0, 4.0, 4.0, 4.0, 1.0, 0.0, 1.0, 0.0);
+        FlowGrid falling = Grids.grid(2, 0, 1, 1, 4.0, 4.0, 4.0, 4.0, 1.0, 0.0, 1.0, 0.0);
         // x is -1 of the right state, y is 3 of the left one.
         CHECKS.same("NARROW, falling: flux(2, false)", falling.flux(2, false), (12.0 + 9.0) / 4.0);
         CHECKS.same("NARROW, falling: flux(2, true)", falling.flux(2, true), (36.0 + 0.5 + 12.0) / 4.0);
-        FlowGrid against = grid(2, 0, 1, 1, 4.0, -4.0, 4.0, -4.0, 1.0, 1.0, 1.0, 1.0);
+        FlowGrid against = Grids.grid(2, 0, 1, 1, 4.0, -4.0, 4.0, -4.0, 1.0, 1.0, 1.0, 1.0);
         // x is -3 of the left state, y is 2 of the right one.
         CHECKS.same("NARROW, against: flux(2, false)", against.flux(2, false), (-8.0 + 3.0 + 18.0) / 5.0);
         CHECKS.same("NARROW, against: flux(2, true)", against.flux(2, true), (24.0 + 4.5 - 30.0) / 5.0);
         // x is exactly 0.0: the left flux; y exactly 0.0: the right one.
-        FlowGrid right = shallow(2, 0, 1, 1.0, 1.0, 2.0, 2.0);
+        FlowGrid right = Grids.shallow(2, 0, 1, 1.0, 1.0, 2.0, 2.0);
         CHECKS.same("NARROW, x 0: flux(2, false)", right.flux(2, false), 1.0);
         CHECKS.same("NARROW, x 0: flux(2, true)", right.flux(2, true), 1.5);
-        FlowGrid left = shallow(2, 0, 1, -2.0, -2.0, -1.0, -1.0);
+        FlowGrid left = Grids.shallow(2, 0, 1, -2.0, -2.0, -1.0, -1.0);
         CHECKS.same("NARROW, y 0: flux(2, false)", left.flux(2, false), -1.0);
         CHECKS.same("NARROW, y 0: flux(2, true)", left.flux(2, true), 1.5);
         // BROAD takes the greater |u| + c, also where u is below 0.0.
-        FlowGrid turned = grid(2, 0, 0, 1, 4.0, -4.0, 4.0, -4.0, 1.0, 0.0, 1.0, 0.0);
+        FlowGrid turned = Grids.grid(2, 0, 0, 1, 4.0, -4.0, 4.0, -4.0, 1.0, 0.0, 1.0, 0.0);
         CHECKS.same("BROAD, leftward: flux(2, false)", turned.flux(2, false), -2.0 + 1.5 * 3.0);
         CHECKS.same("BROAD, leftward: flux(2, true)", turned.flux(2, true), 6.25 - 1.5 * 4.0);
     }
@@ -244,8 +199,8 @@ public final class PromisesTest {
     private static void promise3Order() {
         double[] states = {1.0, 0.0, 2.0, 1.0, 4.0, 3.0, 9.0, -2.0, 5.0, -1.0, 1.5, 0.5};
         for (int k = 0; k < 24; k++) {
-            FlowGrid once = grid(k % 3, k / 3 % 4, k / 12, 2, states);
-            FlowGrid twice = grid(k % 3, k / 3 % 4, k / 12, 1, states);
+            FlowGrid once = Grids.grid(k % 3, k / 3 % 4, k / 12, 2, states);
+            FlowGrid twice = Grids.grid(k % 3, k / 3 % 4, k / 12, 1, states);
             CHECKS.same("order 2: step", once.step(0.03125), 0.03125);
             CHECKS.same("order 2: time()", once.time(), 0.03125);
             CHECKS.same("order 2: count(1)", once.count(1), 1);
@@ -272,7 +227,7 @@ public final class PromisesTest {
         }
         CHECKS.same("put: the others stay", x.cell(1, 0), 1.0);
         CHECKS.same("put: the others stay", x.cell(6, 1), 0.0);
-        String before = all(x);
+        String before = Grids.all(x);
         double[][] wrong = {{Math.nextDown(0.125), 0.0}, {0.0, 0.0}, {-1.0, 0.0}, {Math.nextUp(20.0), 0.0},
             {Double.NaN, 0.0}, {Double.POSITIVE_INFINITY, 0.0}, {Double.NEGATIVE_INFINITY, 0.0},
             {1.0, Math.nextUp(50.0)}, {1.0, Math.nextDown(-50.0)}, {1.0, Double.NaN},
@@ -283,7 +238,7 @@ public final class PromisesTest {
         for (int k : new int[] {-1, 8, 9, 24, Integer.MIN_VALUE, Integer.MAX_VALUE}) {
             CHECKS.throwsIt("put(" + k + ", 1.0, 0.0)", ARGUMENT, () -> x.put(k, 1.0, 0.0));
         }
-        CHECKS.same("all after wrong puts", all(x), before);
+        CHECKS.same("all after wrong puts", Grids.all(x), before);
     }
 
     private static void promise5Times() {
@@ -308,7 +263,7 @@ public final class PromisesTest {
 
     private static void promise5Stage() {
         // Fast to the right: the flux of each face is that of the cell before it.
-        FlowGrid x = shallow(2, 0, 1, 8.0, 8.0, 16.0, 16.0);
+        FlowGrid x = Grids.shallow(2, 0, 1, 8.0, 8.0, 16.0, 16.0);
         CHECKS.same("stage: step", x.step(0.015625), 0.015625);
         CHECKS.same("stage: depth of 1", x.cell(1, 0), 1.0);
         CHECKS.same("stage: momentum of 1", x.cell(1, 1), 8.0);
@@ -319,12 +274,12 @@ public final class PromisesTest {
     }
 
     private static void promise5Failures() {
-        FlowGrid once = grid(2, 2, 0, 2, 4.0, 20.0, 0.5, 0.0, 20.0, -50.0, 20.0, -40.0);
+        FlowGrid once = Grids.grid(2, 2, 0, 2, 4.0, 20.0, 0.5, 0.0, 20.0, -50.0, 20.0, -40.0);
         CHECKS.same("one failure: step", once.step(10.0), 0.4 / 7.0 * 0.5);
         CHECKS.same("one failure: count(2)", once.count(2), 1);
         CHECKS.same("one failure: time()", once.time(), 0.4 / 7.0 * 0.5);
-        FlowGrid four = stubborn();
-        FlowGrid direct = stubborn();
+        FlowGrid four = Grids.stubborn();
+        FlowGrid direct = Grids.stubborn();
         CHECKS.same("four failures: step", four.step(10.0), 0.4 / 12.0 / 16.0);
         CHECKS.same("four failures: count(1)", four.count(1), 1);
         CHECKS.same("four failures: count(2)", four.count(2), 4);
@@ -335,12 +290,12 @@ public final class PromisesTest {
             CHECKS.same("as if never failed: depth of " + k, four.cell(k, 0), direct.cell(k, 0));
             CHECKS.same("as if never failed: momentum of " + k, four.cell(k, 1), direct.cell(k, 1));
         }
-        FlowGrid x = refusing();
-        String before = all(x).replace("0.0 0 0 0", "");
+        FlowGrid x = Grids.refusing();
+        String before = Grids.all(x).replace("0.0 0 0 0", "");
         CHECKS.throwsIt("refused: step(10.0)", STATE, () -> x.step(10.0));
-        CHECKS.same("all after a refused step", all(x).replace("0.0 0 5 1", ""), before);
+        CHECKS.same("all after a refused step", Grids.all(x).replace("0.0 0 5 1", ""), before);
         CHECKS.throwsIt("refused again: step(10.0)", STATE, () -> x.step(10.0));
-        CHECKS.same("all after two refused steps", all(x).replace("0.0 0 10 2", ""), before);
+        CHECKS.same("all after two refused steps", Grids.all(x).replace("0.0 0 10 2", ""), before);
         CHECKS.throwsIt("a wrong time comes first", ARGUMENT, () -> x.step(0.0));
     }
 
@@ -364,19 +319,19 @@ public final class PromisesTest {
         CHECKS.same("run(0.001): time()", x.time(), 0.001);
         CHECKS.same("run just below 0.001", x.run(Math.nextDown(0.001)), 0);
         CHECKS.same("run just below 0.001: time()", x.time(), 0.001);
-        FlowGrid fast = grid(0, 1, 0, 1, 0.25, 50.0, 0.25, 50.0, 0.25, 50.0, 0.25, 50.0);
+        FlowGrid fast = Grids.grid(0, 1, 0, 1, 0.25, 50.0, 0.25, 50.0, 0.25, 50.0, 0.25, 50.0);
         CHECKS.same("run at 40", fast.run(10.0), 40);
         CHECKS.same("run at 40: count(1)", fast.count(1), 40);
         CHECKS.same("run at 40: depth", fast.cell(2, 0), 0.25);
     }
 
     private static void promise6Refused() {
-        FlowGrid run = stubborn();
-        FlowGrid single = stubborn();
+        FlowGrid run = Grids.stubborn();
+        FlowGrid single = Grids.stubborn();
         single.step(10.0);
-        String before = all(single).replace(" 1 4 0", "");
+        String before = Grids.all(single).replace(" 1 4 0", "");
         CHECKS.throwsIt("run with a refused step", STATE, () -> run.run(10.0));
-        CHECKS.same("all after a refused run", all(run).replace(" 1 9 1", ""), before);
+        CHECKS.same("all after a refused run", Grids.all(run).replace(" 1 9 1", ""), before);
     }
 
     private static void promise7() {
@@ -449,13 +404,13 @@ public final class PromisesTest {
         CHECKS.same("time() after put and choose", x.time(), 0.1 + 0.2 + 0.3);
         x.cells(8);
         CHECKS.same("time() after cells", x.time(), 0.0);
-        FlowGrid y = refusing();
+        FlowGrid y = Grids.refusing();
         CHECKS.throwsIt("step", STATE, () -> y.step(10.0));
         CHECKS.same("time() after a refused step", y.time(), 0.0);
     }
 
     private static void promise11() {
-        FlowGrid x = stubborn();
+        FlowGrid x = Grids.stubborn();
         CHECKS.same("count(0)", x.count(0), 4);
         x.step(10.0);
         CHECKS.throwsIt("second step", STATE, () -> x.step(10.0));
