@@ -139,8 +139,8 @@ public final class ModelTest {
 
     private static String told(Answer answer) {
         try {
-            // 0.0 is added so that no difference is made between the two zeros.
-            return Double.toString(answer.give() + 0.0);
+            // As text, so that the two zeros differ: operations made as they are written have one sign.
+            return Double.toString(answer.give());
         } catch (RuntimeException e) {
             return "throws." + e.getClass().getSimpleName();
         }
@@ -149,7 +149,9 @@ public final class ModelTest {
     private void compareAll() {
         for (int k = 0; k < model.count(0); k++) {
             for (int w = 0; w < 4; w++) {
-                CHECKS.same(name + ", cell " + k, grid.cell(k, w), model.cell(k, w));
+                int what = w;
+                int cell = k;
+                both(name + ", cell " + k, () -> grid.cell(cell, what), () -> model.cell(cell, what));
             }
         }
         for (int w = 0; w < 4; w++) {
